@@ -294,7 +294,7 @@ public final class ClauseKernel {
             told = terms.list(proved);
             return WRONG;
         }
-        take(new Thing(name, NONE, null, goal, keptCells));
+        take(new Thing(name, NONE, new int[0], goal, keptCells));
         return DONE;
     }
 
@@ -358,7 +358,7 @@ public final class ClauseKernel {
         }
 
         int last() {
-            return at(used - 1);
+            return used > 0 ? kept[used - 1] : 0;
         }
 
         void add(int x) {
@@ -384,9 +384,11 @@ public final class ClauseKernel {
         }
 
         int takeLast() {
-            int x = last();
-            cut(used - 1);
-            return x;
+            if (used <= 0) {
+                return 0;
+            }
+            used--;
+            return kept[used];
         }
 
         void cut(int length) {
@@ -514,11 +516,11 @@ public final class ClauseKernel {
         }
 
         int first(int k) {
-            return isPair(k) ? (int) (keys[k] >>> SIDE_BITS & SIDE) : NIL;
+            return k >= 0 && k < used && keys[k] < 0 ? (int) (keys[k] >>> SIDE_BITS & SIDE) : NIL;
         }
 
         int rest(int k) {
-            return isPair(k) ? (int) (keys[k] & SIDE) : NIL;
+            return k >= 0 && k < used && keys[k] < 0 ? (int) (keys[k] & SIDE) : NIL;
         }
 
         int height(int k) {
@@ -553,7 +555,8 @@ public final class ClauseKernel {
         }
 
         boolean isQuoted(int object) {
-            return first(object) == QUOTE && listLength(object) == 2;
+            int rest = rest(object);
+            return first(object) == QUOTE && isPair(rest) && rest(rest) == NIL;
         }
     }
 
@@ -861,9 +864,13 @@ public final class ClauseKernel {
         private static final int VARIABLE_KIND = 0;
         private static final int CONSTANT_KIND = 1;
         private static final int CALL_KIND = 2;
-        private static final int IF_CALL = IF << 5 | 3 << 2 | CALL_KIND;
-        private static final int EQUAL_CALL = EQUAL << 5 | 2 << 2 | CALL_KIND;
-        private static final int NOT_CALL = NOT << 5 | 1 << 2 | CALL_KIND;
+        private static final int KINDS = 3;
+        private static final int TAKES_PLACE = 2;
+        private static final int MOST_TAKES = 7;
+        private static final int WHAT_PLACE = 5;
+        private static final int IF_CALL = IF << WHAT_PLACE | 3 << TAKES_PLACE | CALL_KIND;
+        private static final int EQUAL_CALL = EQUAL << WHAT_PLACE | 2 << TAKES_PLACE | CALL_KIND;
+        private static final int NOT_CALL = NOT << WHAT_PLACE | 1 << TAKES_PLACE | CALL_KIND;
 
         private final int[] tokens;
 
@@ -872,36 +879,36 @@ public final class ClauseKernel {
         }
 
         static int variable(int symbol) {
-            return symbol << 5 | VARIABLE_KIND;
+            return symbol << WHAT_PLACE | VARIABLE_KIND;
         }
 
         static int constant(int object) {
-            return object << 5 | CONSTANT_KIND;
+            return object << WHAT_PLACE | CONSTANT_KIND;
         }
 
         static int call(int function, int takes) {
-            return function << 5 | takes << 2 | CALL_KIND;
+            return function << WHAT_PLACE | takes << TAKES_PLACE | CALL_KIND;
         }
 
         static boolean isVariable(int token) {
-            return (token & 3) == VARIABLE_KIND;
+            return (token & KINDS) == VARIABLE_KIND;
         }
 
         static boolean isConstant(int token) {
-            return (token & 3) == CONSTANT_KIND;
+            return (token & KINDS) == CONSTANT_KIND;
         }
 
         static boolean isCall(int token) {
-            return (token & 3) == CALL_KIND;
+            return (token & KINDS) == CALL_KIND;
         }
 
         /** The symbol of a variable, the object of a constant, the function of a call. */
         static int what(int token) {
-            return token >> 5;
+            return token >> WHAT_PLACE;
         }
 
         static int takes(int token) {
-            return token >> 2 & 7;
+            return token >> TAKES_PLACE & MOST_TAKES;
         }
 
         static int placeOf(int token, int[] row) {
@@ -946,9 +953,9 @@ public final class ClauseKernel {
         /** The place behind the term that begins at a place. */
         int behind(int place) {
             int open = 1;
-            int k = place;
+            int k = Math.max(place, 0);
             for (; k < tokens.length && open > 0; k++) {
-                open += takes(at(k)) - 1;
+                open += (tokens[k] >> TAKES_PLACE & MOST_TAKES) - 1;
             }
             return k;
         }
@@ -1054,7 +1061,7 @@ public final class ClauseKernel {
         }
     }
 
-    /** What was taken: a function with its parameters, or a theorem without. */
+    /** What was taken: a function, or a theorem, which has no parameters and can't be called. */
     private static final class Thing {
         private final int name;
         private final int call;
@@ -1071,7 +1078,7 @@ public final class ClauseKernel {
         }
 
         boolean isFunction() {
-            return parameters != null;
+            return call != NONE;
         }
 
         boolean callsItself() {
@@ -1436,14 +1443,18 @@ public final class ClauseKernel {
             return true;
         }
 
-        /** The INDUCTION's clause for one PATH of a function's body; the variables stand for its parameters. */
-        Clause induction(Term goal, Thing function, int[] variables, int path) {
-            Clause made = new Clause();
-            Term body = terms.instance(function.term, function.parameters, leaves(variables));
-            if (body == null) {
-                made.add(null);
-                return made;
+        /** A function's body with variables in the places of its parameters. */
+        Term bodyWith(int[] variables, Thing function) {
+            Term[] leaves = new Term[variables.length];
+            for (int k = 0; k < variables.length; k++) {
+                leaves[k] = terms.leaf(variables[k]);
             }
+            return terms.instance(function.term, function.parameters, leaves);
+        }
+
+        /** The INDUCTION's clause for one PATH of a body in which the variables stand already. */
+        Clause induction(Term goal, Term body, int call, int[] variables, int path) {
+            Clause made = new Clause();
             int at = 0;
             int left = path;
             for (int n = 0; n < MOST_SIZE && body.at(at) == Term.IF_CALL; n++) {
@@ -1457,7 +1468,7 @@ public final class ClauseKernel {
             }
             int behind = body.behind(at);
             for (int k = at; k < behind; k++) {
-                if (body.at(k) == function.call) {
+                if (body.at(k) == call) {
                     Term[] others = termsOfCall(body, k, variables.length);
                     made.add(terms.not(terms.instance(goal, variables, others)));
                 }
@@ -1474,14 +1485,6 @@ public final class ClauseKernel {
                 at = term.behind(at);
             }
             return found;
-        }
-
-        private Term[] leaves(int[] tokens) {
-            Term[] leaves = new Term[tokens.length];
-            for (int k = 0; k < tokens.length; k++) {
-                leaves[k] = terms.leaf(tokens[k]);
-            }
-            return leaves;
         }
     }
 
@@ -1844,8 +1847,12 @@ public final class ClauseKernel {
                     return null;
                 }
             }
+            Term body = paths.bodyWith(variables, function);
+            if (body == null) {
+                return failBy(TOO_BIG);
+            }
             for (int k = 0; k < length; k++) {
-                Clause due = paths.induction(goal, function, variables, k);
+                Clause due = paths.induction(goal, body, function.call, variables, k);
                 if (due.isTooBig()) {
                     return failBy(TOO_BIG);
                 }
