@@ -4,11 +4,17 @@ import java.util.List;
 /** What the tests have in common: saying a text to a kernel, and counting what is not as due. */
 final class Kit {
     private final String name;
+    private String sentence = "";
     private int wrong;
     private int asked;
 
     Kit(String name) {
         this.name = name;
+    }
+
+    /** The sentence of the document that is asked from here on. */
+    void sentence(String words) {
+        sentence = " [" + words + "]";
     }
 
     /** Brings a text, in pieces of twenty bytes, without running it. */
@@ -56,6 +62,16 @@ final class Kit {
         answers(kernel, "(clause " + proof + ")", 0, clause);
     }
 
+    /** A proof that has a clause, whichever that is. */
+    void fine(ClauseKernel kernel, String proof) {
+        due(proof, say(kernel, "(clause " + proof + ")"), 0);
+    }
+
+    /** A proof that is wrong itself, each of its parts being right. */
+    void itself(ClauseKernel kernel, String proof) {
+        wrong(kernel, proof, proof);
+    }
+
     /** A proof that is wrong, and which part of it is told. */
     void wrong(ClauseKernel kernel, String proof, String part) {
         answers(kernel, "(clause " + proof + ")", 7, part);
@@ -65,6 +81,10 @@ final class Kit {
     void work(ClauseKernel kernel, String proof, int fault) {
         answers(kernel, "(clause " + proof + ")", 4, "");
         due("fault(2) of " + proof, kernel.fault(2), fault);
+    }
+
+    void tooBig(ClauseKernel kernel, String proof) {
+        work(kernel, proof, 4);
     }
 
     /** A text that has a FAULT of READING. */
@@ -78,7 +98,8 @@ final class Kit {
         asked++;
         if (!got.equals(want)) {
             wrong++;
-            System.out.println(name + ": " + brief(what) + " answered " + brief(got) + ", due is " + brief(want));
+            System.out.println(name + sentence + ": " + brief(what) + " answered " + brief(got) + ", due is "
+                    + brief(want));
         }
     }
 
