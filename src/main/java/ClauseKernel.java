@@ -1424,13 +1424,11 @@ public final class ClauseKernel {
 
         /** Whether no RULER, and no term of a call of the function, has a call of it. */
         static boolean areLawful(Term body, int call) {
-            int open = 1;
             int at = 0;
-            for (int n = 0; n < MOST_SIZE && open > 0; n++) {
+            for (int n = 0; n < MOST_SIZE && at < body.length(); n++) {
                 boolean branches = body.at(at) == Term.IF_CALL;
                 int from = branches ? at + 1 : at;
                 at = body.behind(from);
-                open += branches ? 1 : -1;
                 if (branches && body.has(call, from, at)) {
                     return false;
                 }

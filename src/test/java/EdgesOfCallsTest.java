@@ -74,6 +74,15 @@ public final class EdgesOfCallsTest {
             fresh.run();
             KIT.due("the bytes behind are 0", fresh.fault(1), n);
         }
+        for (int k = 0; k < 5; k++) {
+            int[] five = new int[5];
+            five[k] = 0x0a0a0a23;
+            five[0] |= 0x3b000000;
+            fresh.feed(five[0], five[1], five[2], five[3], five[4]);
+            fresh.end(1);
+            KIT.due("bytes of 0 end no line, so that all is a blank", firstWord(fresh), 21);
+            KIT.due("its FAULT", fresh.fault(0), 3);
+        }
         for (int n : new int[] {-1, 21, LEAST, MOST}) {
             fresh.feed(blank, blank, blank, blank, blank);
             KIT.due("end(" + n + ")", fresh.end(n), -1);
@@ -185,7 +194,7 @@ public final class EdgesOfCallsTest {
     private static void count() {
         KIT.sentence("8: the literals of the latest run() that was a clause command and had ANSWER 0 (2; 0 before). "
                 + "NONE for another what");
-        ClauseKernel kernel = KIT.told("(defun bad (x) (not (bad x)))");
+        ClauseKernel kernel = KIT.told(Kit.BAD);
         KIT.due("count(2) before", kernel.count(2), 0);
         Kit.say(kernel, "(clause (swap (taut x)))");
         KIT.due("count(2) with ANSWER 7", kernel.count(2), 0);
@@ -198,8 +207,7 @@ public final class EdgesOfCallsTest {
             Kit.say(kernel, text);
             KIT.due("count(2) after " + text, kernel.count(2), 2);
         }
-        String yes = "(put (swap (def bad)) (taut (bad x)))";
-        Kit.say(kernel, "(clause (cut (bad x) " + yes + " (put (def bad) " + yes + ")))");
+        Kit.say(kernel, "(clause " + Kit.EMPTY + ")");
         KIT.due("count(2) of none", kernel.count(2), 0);
         Kit.say(kernel, "(clause (weak (" + String.join(" ", Kit.variables(29)) + ") (same x)))");
         KIT.due("count(2) of most", kernel.count(2), 30);

@@ -217,7 +217,7 @@ public final class EdgesOfCommandsTest {
 
     private static void check() {
         KIT.sentence("(check n F P): n names a theorem already: 3");
-        ClauseKernel kernel = KIT.told("(defun a (x) x)", "(defun bad (x) (not (bad x)))");
+        ClauseKernel kernel = KIT.told("(defun a (x) x)", Kit.BAD);
         answer(kernel, "(check a (equal x x) (same x))", 0);
         answer(kernel, "(check a (equal x x) (same x))", 3);
         answer(kernel, "(check a (equal y y) nonsense)", 3);
@@ -230,9 +230,7 @@ public final class EdgesOfCommandsTest {
         KIT.answers(kernel, "(check b (equal x y) (thm a))", 7, "((equal x x))");
         KIT.due("none was taken", kernel.count(1), 1);
         answer(kernel, "(check b (equal x x) (weak ((equal x x)) (same x)))", 0);
-        String yes = "(put (swap (def bad)) (taut (bad x)))";
-        String empty = "(cut (bad x) " + yes + " (put (def bad) " + yes + "))";
-        answer(kernel, "(check c x " + empty + ")", 0);
+        answer(kernel, "(check c x " + Kit.EMPTY + ")", 0);
         KIT.due("a clause without literals has no other one", kernel.tell(4), 13);
         KIT.answers(kernel, "(check d (equal 7 7) (same '7))", 0, "");
     }
@@ -263,9 +261,8 @@ public final class EdgesOfCommandsTest {
 
     private static void clause() {
         KIT.sentence("(clause P): OUT the clause of P; P any object");
-        ClauseKernel kernel = KIT.told("(defun bad (x) (not (bad x)))");
-        String yes = "(put (swap (def bad)) (taut (bad x)))";
-        KIT.clause(kernel, "(cut (bad x) " + yes + " (put (def bad) " + yes + "))", "nil");
+        ClauseKernel kernel = KIT.told(Kit.BAD);
+        KIT.clause(kernel, Kit.EMPTY, "nil");
         KIT.clause(kernel, "(same x)", "((equal x x))");
         KIT.clause(kernel, "(taut quote)", "'(not quote)");
         for (String object : new String[] {"nil", "t", "0", "x", "'x", "(x . y)", "(same . x)", "(same)", "(clause (same x))"}) {

@@ -20,13 +20,7 @@ public final class EdgesOfProofsTest {
 
     private static ClauseKernel kernel() {
         return KIT.told("(defun f (x) (if x (f (car x)) 1))", "(check a (equal y y) (same y))",
-                "(defun bad (x) (not (bad x)))");
-    }
-
-    /** A proof whose clause has no literal at all. */
-    private static String empty() {
-        String yes = "(put (swap (def bad)) (taut (bad x)))";
-        return "(cut (bad x) " + yes + " (put (def bad) " + yes + "))";
+                Kit.BAD);
     }
 
     private static void lengths() {
@@ -67,9 +61,25 @@ public final class EdgesOfProofsTest {
         KIT.work(kernel, "(swap (taut))", 1);
         KIT.due("steps()", kernel.steps(), 1);
         kernel.fuel(1000);
-        for (int others = 37; others <= 39; others++) {
-            KIT.wrong(kernel, Kit.times(others, "(swap ") + "x" + Kit.times(others, ")"), "x");
-            KIT.due("steps() within " + others, kernel.steps(), others + 1);
+        String two = "(induct (equal x x) (f x) ";
+        within(kernel, "(swap ", ")", 1);
+        within(kernel, "(weak (y) ", ")", 1);
+        within(kernel, "(inst ", " (y z))", 1);
+        within(kernel, "(cut x ", " (taut x))", 1);
+        within(kernel, "(cut x (taut x) ", ")", 2);
+        within(kernel, "(put ", " (same x))", 1);
+        within(kernel, "(put (same x) ", ")", 2);
+        within(kernel, two, " (same x))", 1);
+        within(kernel, two + "(same x) ", ")", 2);
+    }
+
+    /** As many others as a TEXT can put around a PROOF are not too many, whichever part of these it is. */
+    private static void within(ClauseKernel kernel, String front, String behind, int steps) {
+        for (int others = 37; others <= 38; others++) {
+            String proof = Kit.times(others, front) + "(swap x)" + Kit.times(others, behind);
+            KIT.wrong(kernel, proof, "x");
+            KIT.due("steps() of " + others + " times " + front, kernel.steps(), others * steps + 2);
+            KIT.answers(kernel, "(check b x " + proof + ")", 7, "x");
         }
     }
 
@@ -159,8 +169,8 @@ public final class EdgesOfProofsTest {
         ClauseKernel kernel = kernel();
         KIT.clause(kernel, "(weak () (same x))", "((equal x x))");
         KIT.clause(kernel, "(weak (x) (same x))", "((equal x x) x)");
-        KIT.clause(kernel, "(weak () " + empty() + ")", "nil");
-        KIT.clause(kernel, "(weak (x y x) " + empty() + ")", "(x y)");
+        KIT.clause(kernel, "(weak () " + Kit.EMPTY + ")", "nil");
+        KIT.clause(kernel, "(weak (x y x) " + Kit.EMPTY + ")", "(x y)");
         KIT.clause(kernel, "(weak (" + Kit.times(900, "x ") + ") (same x))", "((equal x x) x)");
         for (String list : new String[] {"x", "7", "t", "(x . y)", "(x . t)", "((nope))", "(x (car))", "(x y (car x y))"}) {
             KIT.itself(kernel, "(weak " + list + " (same x))");
@@ -176,12 +186,12 @@ public final class EdgesOfProofsTest {
         KIT.clause(kernel, "(cut 7 (weak (7) (same y)) (weak (nil) (same z)))", "((equal y y) (equal z z))");
         KIT.clause(kernel, "(cut x (weak (x (not x)) (same y)) (weak ((not x) x) (same z)))",
                 "((equal y y) (not x) (equal z z) x)");
-        KIT.clause(kernel, "(cut (bad x) (weak ((bad x)) " + empty() + ") (weak ((not (bad x))) " + empty() + "))", "nil");
+        KIT.clause(kernel, "(cut (bad x) (weak ((bad x)) " + Kit.EMPTY + ") (weak ((not (bad x))) " + Kit.EMPTY + "))", "nil");
         KIT.itself(kernel, "(cut x (same y) (weak ((not x)) (same z)))");
         KIT.itself(kernel, "(cut x (weak (x) (same y)) (same z))");
         KIT.itself(kernel, "(cut x (weak ((not x)) (same y)) (weak (x) (same z)))");
-        KIT.itself(kernel, "(cut x " + empty() + " (taut x))");
-        KIT.itself(kernel, "(cut x (taut x) " + empty() + ")");
+        KIT.itself(kernel, "(cut x " + Kit.EMPTY + " (taut x))");
+        KIT.itself(kernel, "(cut x (taut x) " + Kit.EMPTY + ")");
         KIT.itself(kernel, "(cut 7 (weak (7) (same y)) (weak ((not 7)) (same z)))");
         KIT.itself(kernel, "(cut (not (not x)) (taut (not (not x))) (weak (x) (same y)))");
     }
@@ -193,7 +203,7 @@ public final class EdgesOfProofsTest {
         KIT.clause(kernel, "(inst (taut x) (x y))", "(y (not y))");
         KIT.clause(kernel, "(inst (taut (cons x y)) (x y) (y x))", "((cons y x) (not (cons y x)))");
         KIT.clause(kernel, "(inst (taut x) (y z))", "(x (not x))");
-        KIT.clause(kernel, "(inst " + empty() + " (x y))", "nil");
+        KIT.clause(kernel, "(inst " + Kit.EMPTY + " (x y))", "nil");
         KIT.itself(kernel, "(inst (taut x) (x y) (x y))");
         KIT.itself(kernel, "(inst (taut x) (x y) (z y) (x z))");
         StringBuilder many = new StringBuilder();
@@ -220,7 +230,7 @@ public final class EdgesOfProofsTest {
         KIT.itself(kernel, "(swap (taut (not (equal x y))))");
         KIT.itself(kernel, "(swap (taut '(equal x y)))");
         KIT.itself(kernel, "(swap (taut equal))");
-        KIT.itself(kernel, "(swap " + empty() + ")");
+        KIT.itself(kernel, "(swap " + Kit.EMPTY + ")");
     }
 
     private static void put() {
@@ -237,9 +247,9 @@ public final class EdgesOfProofsTest {
         KIT.clause(kernel, "(put (taut (equal 7 x)) (taut (cons 7 (cons '(7) 77))))",
                 "((cons x (cons '(7) 77)) (not (cons x (cons '(7) 77))) (not (equal 7 x)))");
         KIT.clause(kernel, "(put (taut (equal car y)) (taut (car car)))", "((car y) (not (car y)) (not (equal car y)))");
-        KIT.clause(kernel, "(put (same x) " + empty() + ")", "nil");
-        KIT.clause(kernel, "(put (taut (equal x y)) " + empty() + ")", "((not (equal x y)))");
-        KIT.itself(kernel, "(put " + empty() + " (same x))");
+        KIT.clause(kernel, "(put (same x) " + Kit.EMPTY + ")", "nil");
+        KIT.clause(kernel, "(put (taut (equal x y)) " + Kit.EMPTY + ")", "((not (equal x y)))");
+        KIT.itself(kernel, "(put " + Kit.EMPTY + " (same x))");
         KIT.itself(kernel, "(put (taut x) (taut x))");
         KIT.itself(kernel, "(put (weak ((equal x y)) (taut x)) (taut x))");
     }
@@ -248,8 +258,8 @@ public final class EdgesOfProofsTest {
         KIT.sentence("(induct F (f v ..) P ..): a P for each PATH, whose clause must have no literals but those of the "
                 + "INDUCTION's clause for it: F");
         ClauseKernel kernel = kernel();
-        KIT.clause(kernel, "(induct x (f x) " + empty() + " " + empty() + ")", "(x)");
-        KIT.clause(kernel, "(induct '7 (f x) " + empty() + " " + empty() + ")", "(7)");
+        KIT.clause(kernel, "(induct x (f x) " + Kit.EMPTY + " " + Kit.EMPTY + ")", "(x)");
+        KIT.clause(kernel, "(induct '7 (f x) " + Kit.EMPTY + " " + Kit.EMPTY + ")", "(7)");
         KIT.clause(kernel, "(induct (equal y y) (f y) (same y) (weak (y) (same y)))", "((equal y y))");
         KIT.clause(kernel, "(induct (equal y y) (f y) (weak ((not y)) (same y)) (same y))", "((equal y y))");
         KIT.itself(kernel, "(induct (equal y y) (f y) (weak (y) (same y)) (same y))");

@@ -322,23 +322,22 @@ public final class EdgesOfTermsTest {
 
     private static void sizesOfNots() {
         KIT.sentence("NOT: one that is made with a SIZE above 120 is TOO BIG, as it is made");
-        ClauseKernel kernel = KIT.told("(defun rec (x) (if x (rec (cons x x)) 1))", "(defun bad (x) (not (bad x)))");
+        ClauseKernel kernel = KIT.told("(defun rec (x) (if x (rec (cons x x)) 1))", Kit.BAD);
         KIT.fine(kernel, "(taut (not " + x(119) + "))");
         KIT.fine(kernel, "(cut " + x(119) + " (weak (" + x(119) + ") (same x)) (weak ((not " + x(119) + ")) (same x)))");
         KIT.tooBig(kernel, "(cut " + x(120) + " (weak (" + x(120) + ") (same x)) (same x))");
         KIT.itself(kernel, "(cut " + x(120) + " (same x) (same x))");
-        String yes = "(put (swap (def bad)) (taut (bad x)))";
-        String empty = "(cut (bad x) " + yes + " (put (def bad) " + yes + "))";
-        KIT.clause(kernel, empty, "nil");
+        KIT.clause(kernel, Kit.EMPTY, "nil");
+        String parts = Kit.EMPTY + " " + Kit.EMPTY + ")";
         // F2 has two more than F, NOT F2 one more, but for an F that is (not Y).
         String once = "(cons y " + Kit.wide(115, "z") + ")";
         String more = "(cons y " + Kit.wide(116, "z") + ")";
-        KIT.fine(kernel, "(induct " + once + " (rec y) " + empty + " " + empty + ")");
-        KIT.tooBig(kernel, "(induct " + more + " (rec y) " + empty + " " + empty + ")");
-        KIT.fine(kernel, "(induct (not " + once + ") (rec y) " + empty + " " + empty + ")");
-        KIT.tooBig(kernel, "(induct (not " + more + ") (rec y) " + empty + " " + empty + ")");
-        KIT.fine(kernel, "(induct " + Kit.wide(119, "z") + " (rec y) " + empty + " " + empty + ")");
-        KIT.tooBig(kernel, "(induct " + Kit.wide(120, "z") + " (rec y) " + empty + " " + empty + ")");
+        KIT.fine(kernel, "(induct " + once + " (rec y) " + parts);
+        KIT.tooBig(kernel, "(induct " + more + " (rec y) " + parts);
+        KIT.fine(kernel, "(induct (not " + once + ") (rec y) " + parts);
+        KIT.tooBig(kernel, "(induct (not " + more + ") (rec y) " + parts);
+        KIT.fine(kernel, "(induct " + Kit.wide(119, "z") + " (rec y) " + parts);
+        KIT.tooBig(kernel, "(induct " + Kit.wide(120, "z") + " (rec y) " + parts);
     }
 
     private static void different() {

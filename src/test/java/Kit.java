@@ -3,6 +3,11 @@ import java.util.List;
 
 /** What the tests have in common: saying a text to a kernel, and counting what is not as due. */
 final class Kit {
+    /** A function that has no values by its body, and by it a proof whose clause has no literal at all. */
+    static final String BAD = "(defun bad (x) (not (bad x)))";
+    static final String EMPTY = "(cut (bad x) (put (swap (def bad)) (taut (bad x))) "
+            + "(put (def bad) (put (swap (def bad)) (taut (bad x)))))";
+
     private final String name;
     private String sentence = "";
     private int wrong;
