@@ -13,6 +13,8 @@ import java.util.regex.Pattern;
 /** The rules of LANGUAGE.md that can be seen from the class and from its text. */
 public final class LanguageTest {
     private static final Kit KIT = new Kit("LanguageTest");
+    private static final List<String> FACE = List.of("feed", "end", "fuel", "run", "fault", "steps", "count", "size",
+            "letter", "tell");
 
     public static void main(String[] args) throws Exception {
         face();
@@ -24,7 +26,9 @@ public final class LanguageTest {
     private static void face() {
         TreeSet<String> members = new TreeSet<>();
         for (Method method : ClauseKernel.class.getDeclaredMethods()) {
-            if (!Modifier.isPrivate(method.getModifiers())) {
+            if (Modifier.isPrivate(method.getModifiers())) {
+                KIT.due(method + " has a name of its own", FACE.contains(method.getName()), false);
+            } else {
                 members.add(method.getReturnType() + " " + method.getName() + method.getParameterCount());
             }
         }
@@ -58,6 +62,7 @@ public final class LanguageTest {
             KIT.due(one + " has few fields", fields <= 20, true);
             for (Method method : one.getDeclaredMethods()) {
                 KIT.due(method + " takes few", method.getParameterCount() <= 7, true);
+                KIT.due(method + " has a name of its own", FACE.contains(method.getName()), false);
             }
         }
     }
